@@ -50,9 +50,8 @@ public final class TestText {
     private static final int ALWAYS = 8;
 
     /** Stands for a number or a value that is not there: below all that a text or an answer can tell. */
-    private static final int NOT_KNOWN = Integer.MIN_VALUE;
+    private static final int NOT_KNOWN = -1000000;
     private static final int NONE = -1;
-    private static final int[] NO_NUMBERS = {};
 
     private static final long FIRST_SEED = 1;
     private static final long LOWEST_32_BITS = 0xFFFFFFFFL;
@@ -130,10 +129,11 @@ public final class TestText {
         if (plan.tests.isEmpty()) {
             return NOT_IN_THIS_STATE;
         }
-        if (runCount >= MOST_RUNS) {
+        Trace trace = beginTrace();
+        if (trace == null) {
             return NO_ROOM;
         }
-        Runner runner = new Runner(plan, answers, beginTrace(), seedOfRuns, planted);
+        Runner runner = new Runner(plan, answers, trace, seedOfRuns, planted);
         int greatest = PASSED;
         for (int i = 0; i < plan.tests.size(); i++) {
             Test test = plan.tests.get(i);
@@ -143,10 +143,10 @@ public final class TestText {
         return greatest;
     }
 
-    /** Traces outlive a read(), so that texts read one after another do not fill the room. */
+    /** Null if there is no room. Traces outlive a read(), so that texts read in turn do not fill it. */
     private Trace beginTrace() {
         if (runCount >= MOST_RUNS) {
-            return new Trace();
+            return null;
         }
         if (traces[runCount] == null) {
             traces[runCount] = new Trace();
@@ -273,6 +273,7 @@ public final class TestText {
         int number;
         /** The highest drawn, the time of a wait, 1 for a fault that goes on. */
         int second;
+        /** The numbers of a table of cases. */
         int[] numbers;
         /** The place behind it and all that lies in it. */
         int behind;
@@ -281,7 +282,7 @@ public final class TestText {
         Step(int kind, int line, int place) {
             this.kind = kind;
             this.line = line;
-            numbers = NO_NUMBERS;
+            numbers = new int[0];
             behind = place + 1;
         }
 
@@ -704,13 +705,14 @@ public final class TestText {
             if (many < 1 || many > MOST_NUMBERS) {
                 return false;
             }
-            step.numbers = new int[many];
+            int[] numbers = new int[many];
             for (int i = 0; i < many; i++) {
-                step.numbers[i] = words.numberAt(i + 2);
-                if (step.numbers[i] == NOT_KNOWN) {
+                numbers[i] = words.numberAt(i + 2);
+                if (numbers[i] == NOT_KNOWN) {
                     return false;
                 }
             }
+            step.numbers = numbers;
             return true;
         }
 

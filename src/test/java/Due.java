@@ -39,6 +39,15 @@ final class Due {
         return String.join("\n", lines) + "\n";
     }
 
+    /** Lines that name so many values: va, vb, .. */
+    static String names(int n) {
+        StringBuilder names = new StringBuilder();
+        for (int i = 0; i < n; i++) {
+            names.append("name v").append((char) ('a' + i)).append('\n');
+        }
+        return names.toString();
+    }
+
     /** The line again and again. */
     static String many(int n, String line) {
         return (line + "\n").repeat(n);

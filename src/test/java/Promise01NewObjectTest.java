@@ -35,13 +35,14 @@ public final class Promise01NewObjectTest {
     }
 
     private static void hasSeedOne() {
-        TestText x = Due.of("name a", "test t", "draw a 0 999999");
+        TestText x = Due.of("name a", "test t", "draw a 0 999999", "draw a 0 999999");
         x.run();
         x.seed(1);
         x.run();
         Due.is("differ(1, 2)", x.differ(1, 2), -1);
-        // (1 * 25173 + 13849) / 65536
+        // (1 * 25173 + 13849) / 65536, and the next one, which is another for each seed
         Due.is("cases(0, 2)", x.cases(0, 2), 0);
+        Due.is("cases(1, 2)", x.cases(1, 2), (39022L * 25173 + 13849) / 65536);
         x.seed(0x7FFFFFFFL);
         x.run();
         Due.is("differ(1, 3)", x.differ(1, 3), 0);

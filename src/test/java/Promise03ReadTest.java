@@ -8,6 +8,8 @@ public final class Promise03ReadTest {
         beginsAnew(SOME, 2);
         beginsAnew("", 0);
         beginsAnew("oh", Due.THROWS);
+        forgetsRows();
+        forgetsAnswers();
         keepsTheSeed(false);
         keepsTheSeed(true);
         leavesNothingWhenWrong();
@@ -67,6 +69,32 @@ public final class Promise03ReadTest {
             }
             Due.is("run()", x.run(), -4);
         }
+    }
+
+    /** A RUN behind a read tells nothing of one before it. */
+    private static void forgetsRows() {
+        TestText x = Due.of("name a", "test t", "fault 1 on", "check a = 1", "always", "fault 2 on", "end");
+        x.run();
+        Due.is("undone(1)", x.undone(1), 2);
+        Due.type(x, "name a\ntest t\nset a 4\nfault 3 on");
+        Due.reads(x);
+        Due.is("run()", x.run(), 0);
+        Due.row(x, 0, 3, 0, 4);
+        Due.row(x, 1, 4, 1, 0);
+        Due.row(x, 2, -1, -1, -1);
+        Due.is("undone(0)", x.undone(0), 3);
+        Due.is("undone(1)", x.undone(1), 0);
+        Due.is("shorter()", x.shorter(), 2);
+        Due.is("cover(2, 0)", x.cover(2, 0), 2);
+    }
+
+    private static void forgetsAnswers() {
+        TestText x = Due.of("name a", "test t", "check a = 1");
+        x.answer(1, 1, 0);
+        Due.is("run()", x.run(), 0);
+        Due.type(x, "name a\ntest t\ncheck a = 1");
+        Due.reads(x);
+        Due.is("run()", x.run(), 2);
     }
 
     private static void keepsTheSeed(boolean wrong) {

@@ -236,13 +236,9 @@ public final class Promise04WrongTest {
     }
 
     private static void knowsHowMany() {
-        StringBuilder names = new StringBuilder();
-        for (char c = 'a'; c < 'a' + 20; c++) {
-            names.append("name v").append(c).append('\n');
-        }
-        Due.right(0, names.toString());
-        Due.right(1, names + "test t\nset vt 1");
-        Due.wrongAt(21, names + "name w");
+        Due.right(0, Due.names(20));
+        Due.right(1, Due.names(20) + "test t\nset vt 1");
+        Due.wrongAt(21, Due.names(20) + "name w");
         StringBuilder tests = new StringBuilder();
         for (char c = 'a'; c < 'a' + 12; c++) {
             tests.append("test t").append(c).append('\n');

@@ -10,6 +10,7 @@ public final class Promise05AnswerTest {
         keepsValuesApart();
         holdsAtTheLastTime();
         worksInAnyOrder();
+        worksForTheLastValue();
         Due.close();
     }
 
@@ -139,6 +140,14 @@ public final class Promise05AnswerTest {
         Due.is("cases(100, 1)", x.cases(100, 1), 100000);
         Due.row(x, 101, 8, 101001, 0);
         Due.left(x, 1, 1, 8, 101001);
+    }
+
+    private static void worksForTheLastValue() {
+        TestText x = Due.of(Due.names(20), "test t", "check vt = 5", "set vt 6", "check vt = 6", "cases vt 7",
+                "check vt = 7", "end");
+        Due.is("answer(21, 5, 0)", x.answer(21, 5, 0), -1);
+        Due.is("answer(20, 5, 0)", x.answer(20, 5, 0), 1);
+        Due.is("run()", x.run(), 0);
     }
 
     private static void worksInAnyOrder() {

@@ -8,6 +8,7 @@ public final class Promise06RunTest {
         waits();
         loops();
         doesCases();
+        leavesAllThatIsAround();
         doesAlwaysHoweverItIsLeft();
         doesAlwaysWhoseStepsLeave();
         doesTwoThousandSteps();
@@ -107,6 +108,13 @@ public final class Promise06RunTest {
                 "loop 2", "fault 1 on", "end", "end", "end", "end", "end", "end", "end", "end");
         Due.is("run()", deep.run(), 0);
         Due.is("cover(2, 0)", deep.cover(2, 0), 1 + 2 + 4 + 8 + 16 + 32 + 64 + 128 + 256);
+        TestText cases = having("name a\ntest t\n" + Due.many(8, "cases a 1") + "set a 1\n" + Due.many(8, "end"));
+        Due.is("run()", cases.run(), 0);
+        Due.is("cover(2, 0)", cases.cover(2, 0), 17);
+        TestText always = having("name a\ntest t\nalways\n" + Due.many(6, "cases a 1") + "loop 3\nset a 1\n"
+                + Due.many(8, "end"));
+        Due.is("run()", always.run(), 0);
+        Due.is("cover(2, 0)", always.cover(2, 0), 1 + 12 + 1 + 3);
     }
 
     private static void doesCases() {
@@ -160,6 +168,18 @@ public final class Promise06RunTest {
         Due.row(inLoop, 8, 8, 8, 0);
         Due.row(inLoop, 9, 4, 8, 9);
         Due.row(inLoop, 10, -1, -1, -1);
+    }
+
+    private static void leavesAllThatIsAround() {
+        TestText x = Due.of("name a", "test t", "loop 2", "cases a 1 2", "check a = 1", "end", "set a 5", "end",
+                "set a 6");
+        Due.is("run()", x.run(), 1);
+        Due.left(x, 1, 1, 5, 5);
+        Due.row(x, 6, -1, -1, -1);
+        TestText y = Due.of("name a", "test t", "cases a 1 2", "loop 2", "loop 1", "check a = 2", "end", "end", "end");
+        Due.is("run()", y.run(), 1);
+        Due.left(y, 1, 1, 6, 4);
+        Due.row(y, 5, -1, -1, -1);
     }
 
     private static void doesAlwaysWhoseStepsLeave() {
@@ -244,6 +264,13 @@ public final class Promise06RunTest {
         Due.is("ended(1)", none.ended(1), 1);
         Due.is("undone(0)", none.undone(0), 2);
         Due.is("undone(1)", none.undone(1), 0);
+        // The always is begun behind the last of the 2000 steps, and cannot go on.
+        TestText full = having("test t\n" + steps(79) + "always\nfault 2 on\nend\n");
+        Due.is("run()", full.run(), 2);
+        Due.left(full, 1, 2, 0, 2000);
+        Due.is("ended(1)", full.ended(1), 1);
+        Due.is("undone(0)", full.undone(0), 0);
+        Due.is("cover(0, 1)", full.cover(0, 1), 7 + 79 + 1);
         TestText before = having("name a\ntest t\n" + steps(77) + "set a 1\ncheck a = 2\n"
                 + "always\nfault 2 on\nfault 3 on\nend\n");
         Due.is("run()", before.run(), 1);

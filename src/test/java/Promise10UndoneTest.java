@@ -2,6 +2,7 @@
 public final class Promise10UndoneTest {
     public static void main(String[] args) {
         tellsThemByTheirNumbers();
+        tellsEachOnce();
         looksBehindAlways();
         tellsThemHoweverItIsLeft();
         tellsAllThatThereCanBe();
@@ -26,6 +27,16 @@ public final class Promise10UndoneTest {
         undone(x);
         x.run();
         undone(x, 1, 5, 8, 2, 7);
+    }
+
+    private static void tellsEachOnce() {
+        TestText x = Due.of("test t", "fault 1 on", "fault 1 on", "fault 2 on", "fault 2 off", "fault 2 off",
+                "loop 4", "fault 3 on", "end");
+        x.run();
+        undone(x, 1, 3);
+        x.plant(1, true);
+        x.run();
+        undone(x, 3);
     }
 
     private static void looksBehindAlways() {

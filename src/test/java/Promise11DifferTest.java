@@ -7,6 +7,7 @@ public final class Promise11DifferTest {
         differsInWhatWasDrawn();
         differsInLength();
         looksThroughAllTests();
+        looksNoFurtherThanTheRuns();
         Due.close();
     }
 
@@ -85,6 +86,33 @@ public final class Promise11DifferTest {
         x.run();
         both(x, 1, 2, 2);
         Due.is("cover(2, 0)", x.cover(2, 0), 5);
+    }
+
+    /** What RUNS of a text read before did behind the last step does not count. */
+    private static void looksNoFurtherThanTheRuns() {
+        String[] text = {"name a", "test t", "draw a 0 9999", "wait a ! 0 0", "draw a 0 9999"};
+        TestText x = Due.of(text);
+        x.answer(1, 5, 1);
+        x.run();
+        x.seed(12345);
+        x.run();
+        both(x, 1, 2, 0);
+        Due.type(x, Due.lines("name a", "test t", "set a 1", "wait a ! 0 0"));
+        Due.reads(x);
+        x.run();
+        x.run();
+        both(x, 1, 2, -1);
+        Due.type(x, Due.lines("name a", "test t", "set a 1", "check a = 1", "set a 1"));
+        Due.reads(x);
+        x.run();
+        x.run();
+        both(x, 1, 2, -1);
+        Due.type(x, Due.lines("name a", "test t", "set a 1", "check a = 1", "set a 1"));
+        Due.reads(x);
+        x.run();
+        x.answer(1, 2, 1);
+        x.run();
+        both(x, 1, 2, 2);
     }
 
     private static void looksThroughAllTests() {

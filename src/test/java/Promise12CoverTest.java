@@ -62,11 +62,7 @@ public final class Promise12CoverTest {
         }
         x.run();
         Due.is("cover(1, 1)", x.cover(1, 1), 3);
-        StringBuilder text = new StringBuilder();
-        for (char c = 'a'; c < 'a' + 20; c++) {
-            text.append("name v").append(c).append('\n');
-        }
-        TestText last = Due.of((text + "test t\nset vt 1\ntest u\nset va 1\nset vt 1").split("\n"));
+        TestText last = Due.of(Due.names(20), "test t", "set vt 1", "test u", "set va 1", "set vt 1");
         Due.is("cover(1, 20)", last.cover(1, 20), 2);
         Due.is("cover(1, 19)", last.cover(1, 19), 0);
         Due.is("cover(1, 1)", last.cover(1, 1), 1);

@@ -32,9 +32,7 @@ public final class Promise13LeastTest {
     /** A word a test: the values that it names. */
     private static void least(String tests, int[] due) {
         List<String> lines = new ArrayList<>();
-        for (char c = 'a'; c < 'a' + 20; c++) {
-            lines.add("name v" + c);
-        }
+        lines.add(Due.names(20));
         char name = 'a';
         for (String test : tests.split(" ")) {
             if (!test.isEmpty()) {

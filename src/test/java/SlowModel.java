@@ -471,7 +471,8 @@ final class SlowModel {
 
     int cover(int kind, int of) {
         if (kind == 0) {
-            return of < 1 || of > tests.size() ? -1 : (int) tests.get(of - 1).all.stream().filter(begun::contains).count();
+            return of < 1 || of > tests.size() ? -1
+                    : (int) tests.get(of - 1).all.stream().filter(begun::contains).count();
         }
         if (kind == 1) {
             return of < 1 || of > values.size() ? -1
