@@ -1,3 +1,7 @@
+import java.io.IOException;
+import java.nio.file.Files;
+import java.nio.file.Path;
+
 /** What the tests share: texts put in sign by sign, answers held against those that are due. */
 final class Due {
     /** What reads() answers when read() throws IllegalStateException. */
@@ -5,6 +9,8 @@ final class Due {
 
     private static int calls = 0;
     private static int wrong = 0;
+    /** The promise and the sentence that are being tested, told with an answer that is not as due. */
+    private static String tested = "";
 
     private Due() {
     }
@@ -13,7 +19,24 @@ final class Due {
         calls++;
         if (got != want) {
             wrong++;
-            System.out.println(call + " answered " + got + ", due is " + want);
+            System.out.println(tested + call + " answered " + got + ", due is " + want);
+        }
+    }
+
+    /** What follows tests these words of the document, as that promise uses them. */
+    static void sentence(int promise, String words) {
+        tested = "promise " + promise + ", \"" + words + "\": ";
+        String document = document();
+        is("the words stand in the document", document.isEmpty() || document.contains(words) ? 1 : 0, 1);
+    }
+
+    /** The document in one line, empty if it is not there. */
+    static String document() {
+        Path path = Path.of("..", "shared", "DOC.md");
+        try {
+            return Files.exists(path) ? String.join(" ", Files.readString(path).trim().split("\\s+")) : "";
+        } catch (IOException e) {
+            return "";
         }
     }
 
