@@ -22,6 +22,11 @@ public final class Edges03ReadTest {
         // The first line of the next text is 1 again, and no sign of the last one stands before it.
         new Calls().signs("\n\n").read(0).signs("\noh").read(Due.THROWS).wrong(2);
         new Calls().signs("na").read(Due.THROWS).signs("me a").read(Due.THROWS).wrong(1);
+        // Of a longer text before it nothing stands behind a shorter one, either.
+        for (char c : new char[] {'\n', 'x', ' '}) {
+            new Calls().signs(("" + c).repeat(50)).read(c == 'x' ? Due.THROWS : 0).signs("test t\nloop 1")
+                    .read(Due.THROWS).wrong(3).signs("test t").read(0).wrong(0).read(0).wrong(0);
+        }
         // Names of the last text are free.
         new Calls().signs("name a\ntest b").read(0).signs("name b\ntest a").read(0).wrong(0);
     }
@@ -64,6 +69,12 @@ public final class Edges03ReadTest {
             x.run(0);
         }
         x.run(-4).signs(SOME).read(3).run(0).differ(1, 1, -1).differ(1, 2, -2).ended(1, 1).cover(2, 0, 3);
+        // What a RUN tells is not mixed with what one of the same number did before the read().
+        String left = "name a\ntest t\nfault 1 on\nfault 2 on\ncheck a = 1\nfault 3 on";
+        Calls.having(left).run(2).undone(1, 2).shorter(2).signs("test t\nfault 4 on\nfault 5 off").read(2).run(0)
+                .undone(4).undoneAt(2, 0).shorter(2).lines(2, 3).left(1, 0, 0, 2).cover(2, 0, 2);
+        Calls.having(left).run(2).run(2).signs("test t").read(0).run(0).undone().undoneAt(1, 0).shorter(0).steps(0)
+                .run(0).differ(1, 2, -1).cover(2, 0, 0);
     }
 
     private static void answersGone() {

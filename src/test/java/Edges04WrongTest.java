@@ -172,6 +172,10 @@ public final class Edges04WrongTest {
         Calls.having(Due.names(20) + "test t\nset va 1\nset vt 1\ntest u\nset vt 1").answer(20, 0, 0, 1)
                 .answer(21, 0, 0, -1).cover(1, 1, 1).cover(1, 2, 0).cover(1, 19, 0).cover(1, 20, 2)
                 .cover(1, 21, -1);
+        // The last value is one like all others.
+        Calls.having(Due.names(20) + "test t\ncheck vt = 5\nset vt 6\ncheck vt = 6\ndraw vt 7 7\nwait vt = 7 0\n"
+                + "cases vt 8\ncheck vt = 8\nend\ntest u\ncheck vt = 6").answer(20, 5, 0, 1).run(1).left(1, 0, 0, 8)
+                .left(2, 1, 31, 0);
     }
 
     private static String tests(int n) {

@@ -49,6 +49,16 @@ public final class Edges05AnswerTest {
         Calls.of("name a", "test t", "check a = -999999", "check a = 999999").answer(1, -999999, 0, 1)
                 .answer(1, 999999, 1, 2).run(0);
         atTheLastTime();
+        ofTheNextValue();
+    }
+
+    /** An answer of one value's last time is none of the next value's first times, nor the other way round. */
+    private static void ofTheNextValue() {
+        String[] text = {"name a", "name b", "name c", "test t", "wait b ! 0 9"};
+        for (long time : new long[] {0, 1, 99998, 99999, 100000}) {
+            Calls.of(text).answer(1, 5, time, 1).answer(3, 5, time, 2).run(1).row(0, 5, 9, 0);
+            Calls.of(text).answer(1, 5, time, 1).answer(3, 5, time, 2).answer(2, 5, 4, 3).run(0).row(0, 5, 4, 0);
+        }
     }
 
     /** Wait k is done at 1001 * k, the last time at which it may be; wait 100 at 100000 instead. */

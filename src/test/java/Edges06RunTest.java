@@ -110,6 +110,20 @@ public final class Edges06RunTest {
         Calls.of("name a", "test t", "set a -999999", "check a < 999999", "check a ! 999999").run(0);
         Calls.of("name a", "test t", "set a 999999", "check a > -999999", "check a ! -999999").run(0);
         Calls.of("name a", "test t", "set a 5", "check a = -5").run(1);
+        // It leaves all that is around the step, too.
+        for (String step : new String[] {"check a = 9", "wait a = 9 0"}) {
+            for (String around : new String[] {"loop 2", "cases a 1 2"}) {
+                int first = around.startsWith("loop") ? 2 : 3;
+                Calls.of("name a", "test t", "set a 1", around, step, "set a 2", "end", "set a 3").run(1)
+                        .steps(1 + first).left(1, 1, 5, first);
+                Calls.of("name a", "test t", "set a 1", "loop 2", around, step, "end", "set a 2", "end", "set a 3")
+                        .run(1).steps(2 + first).left(1, 1, 6, 1 + first);
+                Calls.of("name a", "test t", "cases a 1 2", around, step, "end", "set a 2", "end", "set a 3").run(1)
+                        .steps(2 + first).left(1, 1, 5, 1 + first);
+                Calls.of("name a", "test t", "set a 1", "always", "loop 2", around, step, "end", "end", "end").run(1)
+                        .steps(3 + first).left(1, 1, 7, 2 + first);
+            }
+        }
     }
 
     private static void holds(String op, int number, int is) {
@@ -186,6 +200,8 @@ public final class Edges06RunTest {
                 .cases(9, 0, 10).cases(10, 0, 9);
         String once = Due.many(8, "loop 1") + "fault 1 on\n" + Due.many(8, "end");
         Calls.having("test t\n" + once).run(0).lines(2, 3, 4, 5, 6, 7, 8, 9, 10);
+        String inAlways = "always\n" + Due.many(7, "loop 1") + "fault 1 on\n" + Due.many(8, "end");
+        Calls.having("test t\n" + inAlways).run(0).lines(2, 3, 4, 5, 6, 7, 8, 9, 10);
     }
 
     private static void cases() {
