@@ -33,6 +33,14 @@ final class Calls {
         return x;
     }
 
+    /** Calls that change nothing, until the object has one call left. */
+    Calls untilTheLast() {
+        while (made < MOST_CALLS - 1) {
+            next().wrong();
+        }
+        return this;
+    }
+
     Calls sign(int c) {
         next().sign(c);
         return this;

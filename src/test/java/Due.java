@@ -30,6 +30,11 @@ final class Due {
         is("the words stand in the document", document.isEmpty() || document.contains(words) ? 1 : 0, 1);
     }
 
+    /** What follows tests what README.md says in these words. */
+    static void choice(String words) {
+        tested = "choice \"" + words + "\": ";
+    }
+
     /** The document in one line, empty if it is not there. */
     static String document() {
         Path path = Path.of("..", "shared", "DOC.md");

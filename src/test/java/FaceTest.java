@@ -13,6 +13,7 @@ public final class FaceTest {
         "int least(int)", "int seed(long)", "int shorter()", "int cases(int, int)"};
 
     public static void main(String[] args) {
+        faceIsTheDocuments();
         TreeSet<String> seen = new TreeSet<>();
         TreeSet<String> names = new TreeSet<>();
         for (Method m : TestText.class.getDeclaredMethods()) {
@@ -44,6 +45,25 @@ public final class FaceTest {
         }
         staticsAreFinal(TestText.class);
         Due.close();
+    }
+
+    /** The document tells the face as Java, with names for the parameters. */
+    private static void faceIsTheDocuments() {
+        String document = Due.document();
+        int from = document.indexOf("public final class TestText {");
+        int to = document.indexOf("}", Math.max(0, from));
+        if (document.isEmpty()) {
+            return;
+        }
+        Due.is("the document tells a face", from >= 0 && to > from ? 1 : 0, 1);
+        TreeSet<String> told = new TreeSet<>();
+        for (String one : document.substring(document.indexOf("{", from) + 1, to).split(";")) {
+            told.add(one.replace("public ", "").replaceAll("(\\w+) \\w+([,)])", "$1$2").trim());
+        }
+        TreeSet<String> known = new TreeSet<>(Arrays.asList(FACE));
+        known.add("TestText()");
+        known.add("");
+        Due.is("the document's face is " + told, told.equals(known) ? 1 : 0, 1);
     }
 
     private static void staticsAreFinal(Class<?> c) {

@@ -8,7 +8,7 @@ import java.util.regex.Matcher;
 import java.util.regex.Pattern;
 import java.util.stream.Stream;
 
-/** Each sentence of the document's terms and promises is named by a test of its boundary cases, Edges..Test. */
+/** Each sentence of the document, up to what is not promised, is named by a test of its boundary cases, Edges..Test. */
 public final class SentencesTest {
     private static final Pattern NAMED = Pattern.compile("Due\\.sentence\\((\\d+), \"((?:[^\"\\\\]|\\\\.)*)\"\\)");
 
@@ -16,8 +16,9 @@ public final class SentencesTest {
         String document = Due.document();
         List<String> named = named();
         Due.is("sentences are named", named.isEmpty() ? 0 : 1, 1);
-        int from = document.indexOf("## Terms");
+        int from = document.indexOf("## What it is");
         int to = document.indexOf("## Not promised");
+        Due.is("the document has its headings", document.isEmpty() || from >= 0 && to > from ? 1 : 0, 1);
         if (from >= 0 && to > from) {
             for (String part : unnamed(document.substring(from, to), named)) {
                 Due.is("tests that name \"" + part + "\"", 0, 1);
@@ -63,9 +64,13 @@ public final class SentencesTest {
         return left;
     }
 
-    /** Headings, declarations, what joins two sentences: words that say nothing that could be tested. */
+    /**
+     * Headings, declarations (FaceTest looks at them), what the document is about, what joins two sentences: words that
+     * say nothing that could be tested.
+     */
     private static boolean isFrame(String part) {
-        return !part.replaceAll("## Promise \\d+: [A-Za-z ]+? `[^`]*`:", "").replaceAll("```(text)?", "")
+        return !part.replaceAll("## What it is Tests in a text: .*? the least set of tests\\.", "")
+                .replaceAll("## The public face ```java .*? ```", "").replaceAll("## Promise \\d+: [A-Za-z ]+? `[^`]*`:", "").replaceAll("```(text)?", "")
                 .replaceAll("## Terms|others are:|Steps:", "").matches(".*[A-Za-z0-9].*");
     }
 }
